@@ -686,6 +686,32 @@ public final class PromisesTest {
         z.addCall(0, 1, 20, 24);
         z.addCall(0, 2, 30, 30);
         same("one ride costs one price", z.cheapest(0, 2, 0, MOST), 10);
+        WhistleStop w = daily(0, 0, 0);
+        shuttle(w, 1, 0, 10, 1, 50);
+        shuttle(w, 2, 1, 50, 2, 50);
+        same("a ride without a minute", w.cheapest(0, 2, 0, 50), 3);
+        w.setChange(1, 1);
+        same("but for the change", w.cheapest(0, 2, 0, 50), -1);
+        cheapestOfMany();
+    }
+
+    /** What arrives at 1 later is cheaper; one can go on from there each 60 minutes. */
+    private static void cheapestOfMany() {
+        WhistleStop x = daily(0, 0, 0);
+        for (int trip = 0; trip < 22; trip++) {
+            shuttle(x, 400 - 10 * trip, 0, 100, 1, 110 + 10 * trip);
+        }
+        x.addTrip(0, 1, 1, 110);
+        for (int call = 0; call < 7; call++) {
+            x.addCall(22, call % 2 == 0 ? 2 : 1, 120 + 30 * call, 140 + 30 * call);
+        }
+        int[][] due = {{119, -1}, {120, 401}, {179, 401}, {180, 401 - 60}, {239, 401 - 60}, {240, 401 - 120},
+            {299, 401 - 120}, {300, 401 - 180}, {1559, 401 - 180}, {1560, 401 - 210}, {MOST, 401 - 210}};
+        for (int[] each : due) {
+            same("cheapest(0, 2, 0, " + each[0] + ")", x.cheapest(0, 2, 0, each[0]), each[1]);
+        }
+        same("again", x.cheapest(0, 1, 0, 250), 400 - 140);
+        same("again", x.cheapest(0, 1, 0, MOST), 400 - 210);
     }
 
     private static void latest() {
@@ -739,6 +765,29 @@ public final class PromisesTest {
         z.addFootway(0, 2, 8);
         same("not ahead of 0", z.latest(2, 1, 1449), -1);
         same("the day behind", z.latest(2, 1, 1450), 1437);
+        latestOfLongJourneys();
+    }
+
+    private static void latestOfLongJourneys() {
+        WhistleStop x = withStops(0, 0, 0, 0);
+        x.addCalendar(127, 0, 0);
+        shuttle(x, 0, 0, 0, 1, 0);
+        shuttle(x, 0, 1, 10, 2, 2879);
+        x.addFootway(2, 3, 1);
+        same("all of 2880 minutes", x.latest(0, 3, 2880), 0);
+        same("a minute less", x.latest(0, 3, 2879), -1);
+        for (int at = 2880; at < 9000; at++) {
+            same("latest(0, 3, " + at + ")", x.latest(0, 3, at), 0);
+        }
+        same("a year later", x.latest(0, 3, 500000), 0);
+        x.late(1, 0, 1);
+        same("2881 minutes", x.latest(0, 3, 500000), -1);
+        x.late(0, 0, 1);
+        same("2880 minutes again", x.latest(0, 3, 500000), 1);
+        shuttle(x, 0, 0, 0, 2, 2000);
+        same("a long one hides a shorter one", x.latest(0, 3, 500000), 1);
+        x.late(1, 0, 2);
+        same("a shorter one", x.latest(0, 3, 500000), 0);
     }
 
     private static void reached() {
