@@ -761,12 +761,14 @@ public final class WhistleStop {
             deadline = latestEnd;
             Arrays.fill(boards[0], TOO_EARLY);
             alight(net, 0);
+            boolean isBetter = true;
             for (int left = 1; left <= Math.min(rides, MOST_RIDES); left++) {
                 System.arraycopy(boards[left - 1], 0, boards[left], 0, MOST_STOPS);
-                for (int run = 0; run < runs.size; run++) {
-                    rideRun(runs.trips[run], runs.bases[run], boards[left], alights[left - 1]);
+                System.arraycopy(alights[left - 1], 0, alights[left], 0, MOST_STOPS);
+                if (isBetter) {
+                    isBetter = ride(runs, boards[left], alights[left - 1]);
+                    alight(net, left);
                 }
-                alight(net, left);
             }
         }
 
@@ -787,15 +789,27 @@ public final class WhistleStop {
             return latest;
         }
 
-        private void rideRun(Trip trip, int base, int[] boardsNow, int[] alightsBefore) {
+        private boolean ride(Runs runs, int[] boardsNow, int[] alightsBefore) {
+            boolean isBetter = false;
+            for (int run = 0; run < runs.size; run++) {
+                isBetter = rideRun(runs.trips[run], runs.bases[run], boardsNow, alightsBefore) || isBetter;
+            }
+            return isBetter;
+        }
+
+        private boolean rideRun(Trip trip, int base, int[] boardsNow, int[] alightsBefore) {
+            boolean isBetter = false;
             boolean isInTime = false;
             for (int call = trip.size - 1; call >= 0; call--) {
                 int stop = trip.stops[call];
-                if (isInTime) {
-                    boardsNow[stop] = Math.max(boardsNow[stop], base + trip.departs[call]);
+                int departs = base + trip.departs[call];
+                if (isInTime && departs > boardsNow[stop]) {
+                    boardsNow[stop] = departs;
+                    isBetter = true;
                 }
                 isInTime = isInTime || base + trip.arrives[call] <= alightsBefore[stop];
             }
+            return isBetter;
         }
 
         private void alight(Network net, int left) {
@@ -839,23 +853,18 @@ public final class WhistleStop {
             while (first < size && times[first] < time) {
                 first++;
             }
+            // What is neither earlier nor cheaper from here on gives way.
             int next = first;
             while (next < size && prices[next] >= price) {
                 next++;
             }
-            replace(first, next);
+            makeRoom(size + 1);
+            System.arraycopy(times, next, times, first + 1, size - next);
+            System.arraycopy(prices, next, prices, first + 1, size - next);
+            size += first + 1 - next;
             times[first] = time;
             prices[first] = price;
             return true;
-        }
-
-        // Leaves room for one offer in place of those from first up to next (not counted).
-        private void replace(int first, int next) {
-            int behind = size - next;
-            makeRoom(first + 1 + behind);
-            System.arraycopy(times, next, times, first + 1, behind);
-            System.arraycopy(prices, next, prices, first + 1, behind);
-            size = first + 1 + behind;
         }
 
         void copy(Offers other) {
