@@ -306,7 +306,7 @@ public final class WhistleStop {
         int rides = onward.fewestRides(to);
         backward.seek(net, runs, to, onward.endOf(to, rides), rides);
         journey.trace(net, runs, backward, rides);
-        return journey.size;
+        return legs();
     }
 
     // ---- the JOURNEY that is kept
