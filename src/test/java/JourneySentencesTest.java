@@ -33,9 +33,9 @@ public final class JourneySentencesTest {
         latest();
         reached();
         find();
-        DOC.end("3. Journeys", "Promise 17: departures", "Promise 18: departsAt", "Promise 19: tripAt", "Promise 20: earliest",
-            "Promise 21: withRides", "Promise 22: rides", "Promise 23: cheapest", "Promise 24: latest",
-            "Promise 25: reached", "Promise 26: find");
+        DOC.end("3. Journeys", "Promise 17: departures", "Promise 18: departsAt", "Promise 19: tripAt",
+            "Promise 20: earliest", "Promise 21: withRides", "Promise 22: rides", "Promise 23: cheapest",
+            "Promise 24: latest", "Promise 25: reached", "Promise 26: find");
     }
 
     private static void sameJourney(WhistleStop x, int from, int to, int at, String due) {
@@ -100,8 +100,8 @@ public final class JourneySentencesTest {
             DOC.same("no WALK behind two WALKS", x.earliest(0, 3, 41), 1505);
             DOC.same("nor behind a RIDE and a WALK", x.withRides(3, 1, 0, 6), -1);
         });
-        DOC.says("A RIDE begins as its RUN departs, which is at T or later; not ahead of the end of the leg ahead; and, "
-            + "if that is a RIDE (also by the same RUN), not ahead of its end and the CHANGE of the stop, added.",
+        DOC.says("A RIDE begins as its RUN departs, which is at T or later; not ahead of the end of the leg ahead; "
+            + "and, if that is a RIDE (also by the same RUN), not ahead of its end and the CHANGE of the stop, added.",
             JourneySentencesTest::rideBegins);
     }
 
@@ -195,8 +195,8 @@ public final class JourneySentencesTest {
     }
 
     private static void theOneThatIsKept() {
-        DOC.says("The one that is kept (see find()) is, of those that end at the EARLIEST time, one with as few RIDES as "
-            + "can be;", () -> {
+        DOC.says("The one that is kept (see find()) is, of those that end at the EARLIEST time, one with as few RIDES "
+            + "as can be;", () -> {
                 WhistleStop x = Timetables.daily(0, 0, 0);
                 Timetables.shuttle(x, 0, 0, 100, 1, 110);
                 Timetables.shuttle(x, 0, 1, 110, 2, 150);
@@ -315,20 +315,20 @@ public final class JourneySentencesTest {
     }
 
     private static void headings() {
-        DOC.says("Ahead of the calls `addStop`, `setChange`, `addFootway`, `addCalendar`, `except`, `runsOn`, `addTrip`, "
-            + "`addCall`, `stops`, `trips`, `calls`, `stopOf` the interface says: ---- stops, calendars, trips.",
-            () -> DOC.same("stops()", Timetables.line().stops(), 4));
+        DOC.says("Ahead of the calls `addStop`, `setChange`, `addFootway`, `addCalendar`, `except`, `runsOn`, "
+            + "`addTrip`, `addCall`, `stops`, `trips`, `calls`, `stopOf` the interface says: ---- stops, calendars, "
+            + "trips.", () -> DOC.same("stops()", Timetables.line().stops(), 4));
         DOC.says("Ahead of the calls `late`, `cancel`, `lateOf` the interface says: ---- what is late.",
             () -> DOC.same("lateOf(0, 0)", Timetables.line().lateOf(0, 0), 0));
         DOC.says("Ahead of the calls `departures`, `departsAt`, `tripAt` the interface says: ---- boards: RUNS that "
-            + "depart from a stop (not at their last call; once for each such call), from a time on, up to 2880 minutes "
-            + "later (counted); by times, then by numbers of trips, then by days of their RUNS, then by calls.",
+            + "depart from a stop (not at their last call; once for each such call), from a time on, up to 2880 "
+            + "minutes later (counted); by times, then by numbers of trips, then by days of their RUNS, then by calls.",
             JourneySentencesTest::boards);
         DOC.says("Ahead of the calls `earliest`, `withRides`, `rides`, `cheapest`, `latest`, `reached`, `find` the "
             + "interface says: ---- journeys.", () -> DOC.same("earliest", Timetables.line().earliest(0, 3, 0), 159));
         DOC.says("Ahead of the calls `legs`, `legTrip`, `legTo`, `legBegin`, `legEnd`, `slack`, `price`, `holds`, "
-            + "`earliestIf`, `moving`, `digest` the interface says: ---- the JOURNEY that is kept (as it was when it was "
-            + "found, whatever is told later).", JourneySentencesTest::asItWasFound);
+            + "`earliestIf`, `moving`, `digest` the interface says: ---- the JOURNEY that is kept (as it was when it "
+            + "was found, whatever is told later).", JourneySentencesTest::asItWasFound);
     }
 
     private static void boards() {
@@ -546,16 +546,17 @@ public final class JourneySentencesTest {
                 DOC.same(rides + " at most", x.withRides(0, 2, 0, rides), due[rides]);
             }
         });
-        DOC.says("Returns the least time at which a JOURNEY with so many RIDES at most ends; -1 if there is none.", () -> {
-            WhistleStop x = Timetables.chain(8, 0);
-            for (int stop = 0; stop < 7; stop++) {
-                for (int rides = 0; rides <= 6; rides++) {
-                    int due = stop == 0 ? 100 : 100 + 10 * stop;
-                    DOC.same("to " + stop + " with " + rides, x.withRides(0, stop, 100, rides), rides < stop ? -1 : due);
+        DOC.says("Returns the least time at which a JOURNEY with so many RIDES at most ends; -1 if there is none.",
+            () -> {
+                WhistleStop x = Timetables.chain(8, 0);
+                for (int stop = 0; stop < 7; stop++) {
+                    for (int rides = 0; rides <= 6; rides++) {
+                        int due = rides < stop ? -1 : 100 + 10 * stop;
+                        DOC.same("to " + stop + " with " + rides, x.withRides(0, stop, 100, rides), due);
+                    }
                 }
-            }
-            DOC.same("seven are too many", x.withRides(0, 7, 100, 6), -1);
-        });
+                DOC.same("seven are too many", x.withRides(0, 7, 100, 6), -1);
+            });
         refusesStops((x, from, to, at) -> x.withRides(from, to, at, 6));
         DOC.says("Throws `IllegalArgumentException` if at is not 0 to 500000, or rides is not 0 to 6", () -> {
             refusesTimes((x, from, to, at) -> x.withRides(from, to, at, 6));
@@ -601,8 +602,8 @@ public final class JourneySentencesTest {
             DOC.same("a minute earlier", x.cheapest(0, 3, 0, 158), -1);
             DOC.same("by any time", x.cheapest(0, 3, 0, MOST), 42);
         });
-        DOC.says("Returns the least sum of the prices of the RIDES of a JOURNEY that ends at by or earlier; -1 if there "
-            + "is none.", JourneySentencesTest::cheapestOfSome);
+        DOC.says("Returns the least sum of the prices of the RIDES of a JOURNEY that ends at by or earlier; -1 if "
+            + "there is none.", JourneySentencesTest::cheapestOfSome);
         refusesStops((x, from, to, at) -> x.cheapest(from, to, at, MOST));
         DOC.says("Throws `IllegalArgumentException` if at is not 0 to 500000, or by is less than at", () -> {
             refusesTimes((x, from, to, at) -> x.cheapest(from, to, at, MOST));
@@ -714,8 +715,8 @@ public final class JourneySentencesTest {
 
     private static void latest() {
         DOC.in("Promise 24: latest");
-        DOC.says("Returns the latest T, not greater than at, and not less than 0, at which one can begin a JOURNEY that "
-            + "ends at the time at, or earlier; -1 if there is none.", JourneySentencesTest::latestOfSome);
+        DOC.says("Returns the latest T, not greater than at, and not less than 0, at which one can begin a JOURNEY "
+            + "that ends at the time at, or earlier; -1 if there is none.", JourneySentencesTest::latestOfSome);
         refusesStops(WhistleStop::latest);
         DOC.says("Throws `IllegalArgumentException` if at is not 0 to 500000", () -> {
             refusesTimes(WhistleStop::latest);

@@ -220,9 +220,9 @@ public final class KeptSentencesTest {
 
     private static void holds() {
         DOC.in("Promise 34: holds");
-        DOC.says("Returns whether it is a JOURNEY still, leg by leg by the same calls of the same RUNS (as late as they "
-            + "are now), and footways, with the CHANGES as they are now, from T on, that ends at T + 2880 or earlier; "
-            + "WALKS begin as section 3 tells.", () -> {
+        DOC.says("Returns whether it is a JOURNEY still, leg by leg by the same calls of the same RUNS (as late as "
+            + "they are now), and footways, with the CHANGES as they are now, from T on, that ends at T + 2880 or "
+            + "earlier; WALKS begin as section 3 tells.", () -> {
                 holdsByCalls();
                 holdsByRuns();
                 holdsByChanges();
@@ -374,8 +374,8 @@ public final class KeptSentencesTest {
                 DOC.same("nothing was told", x.late(0, 0, 0), 0);
                 DOC.same("earliest()", x.earliest(0, 3, 100), 159);
             });
-        DOC.says("`minutes`: how late it would be, as if late() had told it (so it would run, though it is cancelled; but "
-            + "not on a day on which its calendar does not run)", () -> {
+        DOC.says("`minutes`: how late it would be, as if late() had told it (so it would run, though it is cancelled; "
+            + "but not on a day on which its calendar does not run)", () -> {
                 WhistleStop x = kept();
                 x.cancel(1, 0);
                 DOC.same("cancelled", x.earliest(0, 3, 100), 1599);
@@ -417,8 +417,8 @@ public final class KeptSentencesTest {
 
     private static void moving() {
         DOC.in("Promise 36: moving");
-        DOC.says("Returns the sum of all minutes that the JOURNEY that is kept is in RIDES, divided by how many minutes "
-            + "there are from T to its end, not cut; 0 if none is kept, or it takes none.", () -> {
+        DOC.says("Returns the sum of all minutes that the JOURNEY that is kept is in RIDES, divided by how many "
+            + "minutes there are from T to its end, not cut; 0 if none is kept, or it takes none.", () -> {
                 DOC.same("none is kept", new WhistleStop().moving(), 0.0);
                 WhistleStop x = kept();
                 DOC.same("20 + 23 of 59", x.moving(), 43.0 / 59.0);
@@ -451,26 +451,26 @@ public final class KeptSentencesTest {
         DOC.in("Promise 37: digest");
         DOC.says("Computes a checksum. A number d starts with 2503; then d becomes d * 31 + v, which wraps around as a "
             + "64-bit integer, for each v in this order: stops(), trips(); for each trip calls(), and the stopOf() of "
-            + "each of its calls; for each trip lateOf() on the days 0 to 6; legs(); if a JOURNEY is kept: for each leg "
-            + "legTrip(), legTo(), legBegin(), legEnd(); slack(), price(), holds() (1 if so, 0 if not).", () -> {
+            + "each of its calls; for each trip lateOf() on the days 0 to 6; legs(); if a JOURNEY is kept: for each "
+            + "leg legTrip(), legTo(), legBegin(), legEnd(); slack(), price(), holds() (1 if so, 0 if not).", () -> {
                 DOC.same("of a new object", new WhistleStop().digest(), sum(0, 0, -1));
                 DOC.same("by hand", new WhistleStop().digest(), 2503L * 31 * 31 * 31 - 1);
                 WhistleStop x = Timetables.line();
                 x.late(1, 6, 8);
                 x.late(1, 7, 9);
                 x.cancel(0, 0);
-                DOC.same("none is kept", x.digest(), sum(4, 2, 2, 0, 1, 2, 1, 2, -1, 0, 0, 0, 0, 0, 0, 0, 0, 0, 0, 0, 0, 8,
-                    -1));
+                DOC.same("none is kept", x.digest(), sum(4, 2, 2, 0, 1, 2, 1, 2, -1, 0, 0, 0, 0, 0, 0, 0, 0, 0, 0, 0,
+                    0, 8, -1));
                 x.late(0, 0, 0);
                 x.find(0, 3, 100);
-                DOC.same("one is kept", x.digest(), sum(4, 2, 2, 0, 1, 2, 1, 2, 0, 0, 0, 0, 0, 0, 0, 0, 0, 0, 0, 0, 0, 8,
-                    3, 0, 1, 100, 120, 1, 2, 127, 150, -1, 3, 150, 159, 2, 42, 1));
+                DOC.same("one is kept", x.digest(), sum(4, 2, 2, 0, 1, 2, 1, 2, 0, 0, 0, 0, 0, 0, 0, 0, 0, 0, 0, 0, 0,
+                    8, 3, 0, 1, 100, 120, 1, 2, 127, 150, -1, 3, 150, 159, 2, 42, 1));
                 x.late(0, 0, 3);
-                DOC.same("it does not hold", x.digest(), sum(4, 2, 2, 0, 1, 2, 1, 2, 3, 0, 0, 0, 0, 0, 0, 0, 0, 0, 0, 0, 0,
-                    8, 3, 0, 1, 100, 120, 1, 2, 127, 150, -1, 3, 150, 159, 2, 42, 0));
+                DOC.same("it does not hold", x.digest(), sum(4, 2, 2, 0, 1, 2, 1, 2, 3, 0, 0, 0, 0, 0, 0, 0, 0, 0, 0,
+                    0, 0, 8, 3, 0, 1, 100, 120, 1, 2, 127, 150, -1, 3, 150, 159, 2, 42, 0));
                 x.find(3, 3, 7);
-                DOC.same("without legs", x.digest(), sum(4, 2, 2, 0, 1, 2, 1, 2, 3, 0, 0, 0, 0, 0, 0, 0, 0, 0, 0, 0, 0, 8,
-                    0, -1, 0, 1));
+                DOC.same("without legs", x.digest(), sum(4, 2, 2, 0, 1, 2, 1, 2, 3, 0, 0, 0, 0, 0, 0, 0, 0, 0, 0, 0,
+                    0, 8, 0, -1, 0, 1));
             });
         DOC.says("Returns d.", () -> {
             WhistleStop x = Timetables.withStops(0);

@@ -17,6 +17,8 @@ import java.util.stream.Collectors;
 public final class LanguageTest {
     private static final String FILE = "src/main/java/WhistleStop.java";
     private static final String DOCUMENT = "../shared/DOC.md";
+    private static final int MOST_LINES = 60;
+    private static final int MOST_PARAMETERS = 7;
     private static final List<String> RULED_OUT = List.of("->", "::", "\\bcatch\\b", "\\btry\\b", "\\bfinally\\b",
         "\\bsynchronized\\b", "\\bassert\\b", "\\bpackage\\b", "\\bprotected\\b", "\\binstanceof\\b", "Exact\\b",
         "\\bfloat\\b", "\\bSystem\\.(?!arraycopy\\b)", "\\bObject\\b", "\\bequals\\b", "\\bhashCode\\b",
@@ -36,6 +38,7 @@ public final class LanguageTest {
         check(code.lines().filter(line -> line.startsWith("import ")).allMatch("import java.util.Arrays;"::equals),
             "an import is ruled out");
         checkFace(code);
+        checkLengths(text);
         checkMembers();
         System.out.println(wrong == 0 ? "the language is kept to" : wrong + " rules are broken");
         if (wrong != 0) {
@@ -61,6 +64,21 @@ public final class LanguageTest {
         check(code.split("\\bpublic\\b", -1).length - 1 == 38, "there is more that is public than the face");
     }
 
+    /** A method ends at the first brace that stands as far to the right as it begins. */
+    private static void checkLengths(String text) {
+        List<String> lines = text.lines().collect(Collectors.toList());
+        for (int first = 0; first < lines.size(); first++) {
+            String line = lines.get(first);
+            String indent = line.substring(0, line.length() - line.stripLeading().length());
+            boolean isMember = indent.length() == 4 || indent.length() == 8;
+            if (isMember && line.matches(".*\\w\\(.*") && !line.matches(" *(for|if|while|return|throw|//|\\*).*")
+                && !line.endsWith(";")) {
+                int end = first + lines.subList(first, lines.size()).indexOf(indent + "}");
+                check(end >= first && end - first < MOST_LINES, "from line " + (first + 1) + " a method is too long");
+            }
+        }
+    }
+
     private static void checkMembers() {
         Class<?> outer = WhistleStop.class;
         check(Modifier.isFinal(outer.getModifiers()), "the class is not final");
@@ -68,6 +86,7 @@ public final class LanguageTest {
         for (Method method : outer.getDeclaredMethods()) {
             boolean isPublic = Modifier.isPublic(method.getModifiers());
             check(isPublic || Modifier.isPrivate(method.getModifiers()), method + " is neither public nor private");
+            check(method.getParameterCount() <= MOST_PARAMETERS, method + " takes too much");
             if (isPublic) {
                 check(face.add(method.getName()), method + " is there twice");
             }
@@ -81,6 +100,7 @@ public final class LanguageTest {
             checkFields(inner);
             for (Method method : inner.getDeclaredMethods()) {
                 check(!face.contains(method.getName()), method + " bears the name of a public one");
+                check(method.getParameterCount() <= MOST_PARAMETERS, method + " takes too much");
             }
         }
         check(outer.getDeclaredClasses().length <= 12, "there are too many classes");

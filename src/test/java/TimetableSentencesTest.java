@@ -159,9 +159,9 @@ public final class TimetableSentencesTest {
                 x.except(0, 10, false);
                 same(x, 0, new int[] {16});
             });
-        DOC.says("At most 24 trips, numbered from 0: each has a calendar, a price, 0 to 500, and 1 to 8 calls, numbered "
-            + "from 0: a stop, a minute at which it arrives there, and one at which it departs, told from the beginning "
-            + "of its day, 0 to 2879.", TimetableSentencesTest::fullTrips);
+        DOC.says("At most 24 trips, numbered from 0: each has a calendar, a price, 0 to 500, and 1 to 8 calls, "
+            + "numbered from 0: a stop, a minute at which it arrives there, and one at which it departs, told from "
+            + "the beginning of its day, 0 to 2879.", TimetableSentencesTest::fullTrips);
         DOC.says("Of the first call the minute of arriving is that of departing.", () -> {
             WhistleStop x = Timetables.daily(0, 0);
             x.addTrip(0, 0, 0, 50);
@@ -602,8 +602,8 @@ public final class TimetableSentencesTest {
             DOC.refusesEach(INDEX, "stop", stop -> x.addCall(0, stop, 10, 10), -1, 2, 15, 16, LEAST, MOST);
             DOC.same("calls(0)", x.calls(0), 1);
         });
-        DOC.says("Throws `IllegalArgumentException` if arrives is less than the minute at which the call ahead departs, "
-            + "departs is less than arrives, or more than 2879", () -> {
+        DOC.says("Throws `IllegalArgumentException` if arrives is less than the minute at which the call ahead "
+            + "departs, departs is less than arrives, or more than 2879", () -> {
                 WhistleStop x = Timetables.daily(0, 0);
                 x.addTrip(0, 0, 0, 10);
                 x.addCall(0, 1, 20, 30);
