@@ -1006,14 +1006,14 @@ public final class WhistleStop {
         // Takes the leg that is ahead of all others from which one gets there in time, again and again.
         void trace(Network net, Runs runs, Backward backward, int rides) {
             int left = rides;
-            while (size < MOST_LEGS && (left > 0 || stopNow() != to)) {
+            for (int leg = 0; leg < MOST_LEGS && (left > 0 || stopNow() != to); leg++) {
                 if (left > 0 && takeRide(net, runs, backward, left)) {
                     left--;
                 } else if (!takeWalk(net, backward, left)) {
                     return;
                 }
             }
-            isKept = true;
+            isKept = left == 0 && stopNow() == to;
         }
 
         private int stopNow() {
